@@ -154,9 +154,12 @@ public final class PlanRules {
             return BAD;
         }
         for (int times = 0; times < most; times++) {
-            if (!rules.applyLeast(node)) {
+            int at = rules.leastNode(node);
+            int rule = at < 0 ? -1 : rules.leastRule(at);
+            if (rule < 0 || !rules.hasRoom(at, rule)) {
                 return times;
             }
+            rules.apply(at, rule);
         }
         return most;
     }
@@ -504,7 +507,12 @@ public final class PlanRules {
             failedNode = -1;
             int listed = nodes.listFrom(n);
             for (int i = 0; i < listed && failure == 0; i++) {
-                work(nodes.order[i]);
+                int at = nodes.order[i];
+                nodesWorked++;
+                starts[at] = used;
+                work(at);
+                ends[at] = used;
+                failedNode = failure == 0 ? -1 : at;
             }
             givenStart = starts[n];
             givenRows = failure == 0 ? (ends[n] - starts[n]) / MEMBERS : 0;
@@ -519,16 +527,6 @@ public final class PlanRules {
         }
 
         private void work(int n) {
-            nodesWorked++;
-            starts[n] = used;
-            giveRows(n);
-            ends[n] = used;
-            if (failure != 0) {
-                failedNode = n;
-            }
-        }
-
-        private void giveRows(int n) {
             int a = nodes.lefts[n];
             switch (nodes.kinds[n]) {
                 case Nodes.SOURCE:
@@ -716,7 +714,7 @@ public final class PlanRules {
                 return itemAt(left);
             }
             if (kind == Formulas.NOT) {
-                return asNumber(left == 0);
+                return left == 0 ? 1 : 0;
             }
             if (kind == Formulas.BOTH && left == 0) {
                 return 0;
@@ -740,22 +738,18 @@ public final class PlanRules {
                 case Formulas.PRODUCT:
                     return left * right;
                 case Formulas.QUOTIENT:
-                    return quotient(left, right);
+                    if (right == 0) {
+                        failure = ZERO;
+                        return 0;
+                    }
+                    return left / right;
                 case Formulas.BELOW:
-                    return asNumber(left < right);
+                    return left < right ? 1 : 0;
                 case Formulas.SAME:
-                    return asNumber(left == right);
+                    return left == right ? 1 : 0;
                 default:
-                    return asNumber(right != 0);
+                    return right != 0 ? 1 : 0;
             }
-        }
-
-        private int quotient(int left, int right) {
-            if (right == 0) {
-                failure = ZERO;
-                return 0;
-            }
-            return left / right;
         }
 
         private int itemAt(int i) {
@@ -767,7 +761,7 @@ public final class PlanRules {
         }
     }
 
-    /** RULES: a NODE n of a kind stands above one, its a, of another kind; x, y are what that one stands above. */
+    /** RULES: each wants a NODE n of one kind above a NODE, here the lower one, of another kind. */
     private static final class Rules {
         static final int MOST = 18;
         private static final int[] UPPER = {1, 1, 1, 1, 1, 1, 1, 1, 2, 3, 3, 3, 6, 6, 7, 8, 7, 8};
@@ -871,7 +865,7 @@ public final class PlanRules {
                     break;
                 case 4:
                 case 11:
-                    exchangeBoth(n, lower);
+                    exchange(n, lower, addLike(n, nodes.lefts[lower]), addLike(n, nodes.rights[lower]));
                     break;
                 case MERGE_FILTERS:
                     skip(n, lower, formulas.add(Formulas.BOTH, nodes.values[lower], nodes.values[n]));
@@ -890,7 +884,7 @@ public final class PlanRules {
                     break;
                 case 12:
                 case 16:
-                    workAhead(n, lower);
+                    workAbove(n, addLike(n, nodes.lefts[lower]), addLike(n, nodes.rights[lower]));
                     break;
                 default:
                     exchange(n, lower, addLike(n, nodes.lefts[lower]), nodes.rights[lower]);
@@ -903,22 +897,14 @@ public final class PlanRules {
             nodes.write(n, nodes.kinds[lower], a, b, nodes.members[lower], nodes.values[lower]);
         }
 
-        private void exchangeBoth(int n, int lower) {
-            int left = addLike(n, nodes.lefts[lower]);
-            int right = addLike(n, nodes.rights[lower]);
-            exchange(n, lower, left, right);
-        }
-
         /** n keeps its job, with another value, on what the lower NODE stands above. */
         private void skip(int n, int lower, int value) {
             nodes.write(n, nodes.kinds[n], nodes.lefts[lower], 0, nodes.members[n], value);
         }
 
-        /** n keeps its job on a new UNION of parts for each of which the job has been done. */
-        private void workAhead(int n, int lower) {
-            int left = addLike(n, nodes.lefts[lower]);
-            int right = addLike(n, nodes.rights[lower]);
-            int union = nodes.add(Nodes.UNION, left, right, 0, 0);
+        /** n keeps its job, on a new UNION. */
+        private void workAbove(int n, int a, int b) {
+            int union = nodes.add(Nodes.UNION, a, b, 0, 0);
             nodes.write(n, nodes.kinds[n], union, 0, nodes.members[n], nodes.values[n]);
         }
 
@@ -927,27 +913,19 @@ public final class PlanRules {
             return nodes.add(nodes.kinds[n], below, 0, nodes.members[n], nodes.values[n]);
         }
 
-        /** One step of a sweep from n: whether there was one, with room for it. */
-        boolean applyLeast(int n) {
+        /** Of n and those below it the least that some RULE fits; -1, if there is none. */
+        int leastNode(int n) {
             nodes.listFrom(n);
             for (int at = 0; at < nodes.made; at++) {
-                int rule = nodes.isListed(at) ? leastRule(at) : -1;
-                if (rule >= 0) {
-                    return applyInRoom(at, rule);
+                if (nodes.isListed(at) && leastRule(at) >= 0) {
+                    return at;
                 }
             }
-            return false;
+            return -1;
         }
 
-        private boolean applyInRoom(int n, int rule) {
-            if (!hasRoom(n, rule)) {
-                return false;
-            }
-            apply(n, rule);
-            return true;
-        }
-
-        private int leastRule(int n) {
+        /** The least RULE that fits n; -1, if there is none. */
+        int leastRule(int n) {
             for (int rule = 0; rule < MOST; rule++) {
                 if (suits(n, rule)) {
                     return rule;

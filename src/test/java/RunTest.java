@@ -99,9 +99,12 @@ public final class RunTest {
         x.row(3, 5, MAX, 0);
         x.row(3, 5, 1, 0);
         gives("a sum wraps", x, x.node(6, 3, 0, 0, 1), of(5, MIN));
-        int far = x.node(2, 3, 0, 5, x.formula(1, 8, 0));
-        int mixed = x.node(5, far, 3, 0, 0);
-        Check.due("ROWS that differ in MEMBER 5 alone", x.run(x.node(7, mixed, 0, 0, 0)), 4);
+        int eight = x.formula(1, 8, 0);
+        for (int m = 0; m < 6; m++) {
+            int one = x.node(8, 3, 0, 0, 1);
+            int mixed = x.node(5, x.node(2, one, 0, m, eight), one, 0, 0);
+            Check.due("ROWS that differ in MEMBER " + m + " alone", x.run(x.node(7, mixed, 0, 0, 0)), 2);
+        }
     }
 
     private static void sharedOnes() {

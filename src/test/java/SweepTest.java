@@ -123,6 +123,10 @@ public final class SweepTest {
         Check.due("the same sum", x.member(0, 1), sum);
         Check.due("the top is a FOLD now", x.told(top, 0), FOLD);
         Check.due("none is left", x.sweep(top, 1), 0);
+        while (x.count(1) < 60) {
+            x.node(SOURCE, 0, 0, 0, 0);
+        }
+        Check.due("none is left among 60", x.sweep(top, 100), 0);
     }
 
     private static void tillNoRoom() {
