@@ -2,24 +2,52 @@
 final class Check {
     private static int wrong = 0;
     private static int looked = 0;
+    private static int sentences = 0;
+    private static String sentence = "";
+    private static int lookedBefore = 0;
 
     private Check() {
+    }
+
+    /** What comes now is about this sentence of the document. */
+    static void about(String words) {
+        sentenceIsLookedAt();
+        sentences++;
+        sentence = words;
+        lookedBefore = looked;
+    }
+
+    private static void sentenceIsLookedAt() {
+        if (sentences > 0 && looked == lookedBefore) {
+            wrong++;
+            System.out.println("nothing was looked at for: " + sentence);
+        }
     }
 
     static void due(String call, long got, long want) {
         looked++;
         if (got != want) {
-            wrong++;
-            System.out.println(call + " answered " + got + ", due is " + want);
+            tell(call + " answered " + got + ", due is " + want);
+        }
+    }
+
+    static void due(String call, String got, String want) {
+        looked++;
+        if (!got.equals(want)) {
+            tell(call + " answered '" + got + "', due is '" + want + "'");
         }
     }
 
     static void holds(String what, boolean holds) {
         looked++;
         if (!holds) {
-            wrong++;
-            System.out.println("does not hold: " + what);
+            tell("does not hold: " + what);
         }
+    }
+
+    private static void tell(String what) {
+        wrong++;
+        System.out.println(sentence.isEmpty() ? what : "[" + sentence + "] " + what);
     }
 
     static int wrongSoFar() {
@@ -27,7 +55,10 @@ final class Check {
     }
 
     static void end() {
-        System.out.println(wrong == 0 ? "all " + looked + " answers are as due" : wrong + " of " + looked + " are not");
+        sentenceIsLookedAt();
+        String about = sentences == 0 ? "" : " about " + sentences + " sentences";
+        System.out.println(wrong == 0 ? "all " + looked + " answers" + about + " are as due"
+            : wrong + " of " + looked + " are not as due");
         if (wrong != 0) {
             System.exit(1);
         }

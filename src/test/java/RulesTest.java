@@ -1,4 +1,4 @@
-/** Promises 12 and 13: fits, rewrite. A plan is told as a text: kind(a, b; m; v), what a kind has not left out. */
+/** Promises 12 and 13: fits, rewrite. */
 public final class RulesTest {
     private static final int BAD = PlanRules.BAD, FULL = PlanRules.FULL, NO = PlanRules.NO;
     private static final int MIN = Integer.MIN_VALUE, MAX = Integer.MAX_VALUE;
@@ -49,39 +49,9 @@ public final class RulesTest {
         return x;
     }
 
-    private static String plan(PlanRules x, int n) {
-        int kind = x.told(n, 0);
-        if (kind == SOURCE) {
-            return "S" + x.told(n, 1);
-        }
-        String names = "FILTER SET KEEP JOIN UNION FOLD ONCE FIRST";
-        StringBuilder text = new StringBuilder(names.split(" ")[kind - 1]).append('(').append(plan(x, x.told(n, 1)));
-        if (kind == JOIN || kind == UNION) {
-            text.append(", ").append(plan(x, x.told(n, 2)));
-        }
-        if (kind == SET || kind == JOIN || kind == FOLD) {
-            text.append("; ").append(x.told(n, 3));
-        }
-        if (kind != UNION && kind != ONCE) {
-            text.append("; ").append(x.told(n, 4));
-        }
-        return text.append(')').toString();
-    }
-
-    private static String rowsOf(PlanRules x, int n) {
-        int rows = x.run(n);
-        StringBuilder text = new StringBuilder().append(rows);
-        for (int i = 0; i < rows; i++) {
-            for (int m = 0; m < 6; m++) {
-                text.append(m == 0 ? " / " : " ").append(x.member(i, m));
-            }
-        }
-        return text.toString();
-    }
-
     private static void becomes(PlanRules x, int rule, int n, int more, String want) {
-        String was = plan(x, n);
-        String rows = rowsOf(x, n);
+        String was = Plans.plan(x, n);
+        String rows = Plans.rows(x, n);
         int bound = x.told(n, 5);
         int mayFail = x.told(n, 6);
         int nodes = x.count(1);
@@ -90,21 +60,21 @@ public final class RulesTest {
         Check.due("rewrite " + rule + ": " + was, x.rewrite(n, rule), nodes + more);
         Check.due("count(1)", x.count(1), nodes + more);
         Check.due("count(2)", x.count(2), times + 1);
-        Check.holds(was + " by " + rule + " is " + plan(x, n) + ", due is " + want, plan(x, n).equals(want));
-        Check.holds(was + " by " + rule + ": the same ROWS", rowsOf(x, n).equals(rows));
+        Check.holds(was + " by " + rule + " is " + Plans.plan(x, n) + ", due is " + want, Plans.plan(x, n).equals(want));
+        Check.holds(was + " by " + rule + ": the same ROWS", Plans.rows(x, n).equals(rows));
         Check.due("BOUND", x.told(n, 5), bound);
         Check.due("MAY FAIL", x.told(n, 6), mayFail);
     }
 
     private static void stays(PlanRules x, int rule, int n) {
-        String was = plan(x, n);
+        String was = Plans.plan(x, n);
         int nodes = x.count(1);
         int times = x.count(2);
         Check.due("fits " + rule + ": " + was, x.fits(n, rule), 0);
         Check.due("rewrite " + rule + ": " + was, x.rewrite(n, rule), NO);
         Check.due("count(1)", x.count(1), nodes);
         Check.due("count(2)", x.count(2), times);
-        Check.holds(was + " stays", plan(x, n).equals(was));
+        Check.holds(was + " stays", Plans.plan(x, n).equals(was));
     }
 
     private static void filterSet() {
@@ -336,8 +306,8 @@ public final class RulesTest {
         int above = x.node(ONCE, n, 0, 0, 0);
         int beside = x.node(ONCE, set, 0, 0, 0);
         x.rewrite(n, 0);
-        Check.holds("what stands above sees it", plan(x, above).equals("ONCE(SET(FILTER(S0; 2); 3; 9))"));
-        Check.holds("what was below stays", plan(x, beside).equals("ONCE(SET(S0; 3; 9))"));
+        Check.holds("what stands above sees it", Plans.plan(x, above).equals("ONCE(SET(FILTER(S0; 2); 3; 9))"));
+        Check.holds("what was below stays", Plans.plan(x, beside).equals("ONCE(SET(S0; 3; 9))"));
     }
 
     private static void noRoom() {
@@ -356,14 +326,14 @@ public final class RulesTest {
                 while (x.count(1) < 60 - left) {
                     x.node(SOURCE, 0, 0, 0, 0);
                 }
-                String was = plan(x, n);
+                String was = Plans.plan(x, n);
                 boolean fits = needs[rule] <= left;
                 Check.due("room is not looked at by fits " + rule, x.fits(n, rule), 1);
                 Check.due("rewrite " + rule + " with room for " + left, x.rewrite(n, rule),
                     fits ? 60 - left + needs[rule] : FULL);
                 Check.due("count(1)", x.count(1), fits ? 60 - left + needs[rule] : 60 - left);
                 Check.due("count(2)", x.count(2), fits ? 1 : 0);
-                Check.holds("what is refused changes nothing", fits || plan(x, n).equals(was));
+                Check.holds("what is refused changes nothing", fits || Plans.plan(x, n).equals(was));
             }
         }
     }
@@ -378,7 +348,7 @@ public final class RulesTest {
         Check.due("room for one", x.rewrite(n, 7), x.count(1));
         Check.due("room for none", x.rewrite(m, 7), FULL);
         Check.due("fits all the same", x.fits(m, 7), 1);
-        Check.holds("it stays", plan(x, m).equals("FILTER(FILTER(S0; 1); 2)"));
+        Check.holds("it stays", Plans.plan(x, m).equals("FILTER(FILTER(S0; 1); 2)"));
         Check.due("count(0)", x.count(0), 40);
         Check.due("count(2)", x.count(2), 1);
         PlanRules y = started();
