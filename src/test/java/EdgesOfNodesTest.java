@@ -17,6 +17,7 @@ public final class EdgesOfNodesTest {
         firstGives();
         boundOfEachKind();
         boundHundredAtMost();
+        fullestRun();
         nodeMayFail();
         runWorksEachOnce();
         runWorksInOrder();
@@ -236,6 +237,19 @@ public final class EdgesOfNodesTest {
             int n = Plans.union(x, blank, Plans.set(x, blank, m, nine));
             Check.due("they differ in MEMBER " + m, x.run(Plans.once(x, n)), 2);
         }
+        onceLooksAtNoOtherRow();
+    }
+
+    /** The ROWS ahead of two like ones differ in the MEMBERS that stand next to theirs. */
+    private static void onceLooksAtNoOtherRow() {
+        PlanRules x = new PlanRules();
+        x.row(0, 1, 0, 0);
+        x.row(0, 2, 0, 3);
+        x.row(0, 1, 0, 0);
+        x.row(0, 2, 0, 4);
+        x.row(0, 1, 0, 0);
+        int set = Plans.set(x, Plans.source(x, 0), 5, Plans.member(x, 2));
+        due("like ones behind unlike ones", x, Plans.once(x, set), "3 / 1 0 0 0 0 0 / 2 0 3 0 0 3 / 2 0 4 0 0 4");
     }
 
     private static void firstGives() {
@@ -306,6 +320,26 @@ public final class EdgesOfNodesTest {
         int tens = Plans.union(y, Plans.source(y, 0), Plans.first(y, 0, 4));
         Check.due("100 ROWS", y.run(Plans.join(y, tens, tens, 5, 0)), 100);
         Check.due("the last one", y.member(99, 0), 3);
+    }
+
+    private static void fullestRun() {
+        Check.about("60 NODES, BOUND 100 at most: the greatest RUN, as often as 512 calls let it");
+        PlanRules x = new PlanRules();
+        for (int i = 0; i < 6; i++) {
+            x.row(0, i, i, i);
+        }
+        int ten = Plans.union(x, Plans.source(x, 0), Plans.first(x, 0, 4));
+        int top = Plans.join(x, ten, ten, 5, 2);
+        for (int n = top + 1; n < 60; n++) {
+            top = Plans.keep(x, top, 63);
+        }
+        for (int i = 0; i < 430; i++) {
+            Check.due("RUN " + i, x.run(top), 100);
+        }
+        Check.due("all are worked", Plans.worked(x), "0 0 60 -1");
+        Check.due("the last ROW", x.member(99, 0) + " " + x.member(99, 1) + " " + x.member(99, 3), "3 3 0");
+        Check.due("the one ahead of it", x.member(98, 0) + " " + x.member(98, 1), "3 2");
+        Check.due("none behind it", x.member(100, 0), 0);
     }
 
     private static void nodeMayFail() {

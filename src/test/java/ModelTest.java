@@ -5,6 +5,7 @@ import java.util.LinkedHashMap;
 import java.util.List;
 import java.util.Map;
 import java.util.Random;
+import java.util.Set;
 import java.util.TreeSet;
 
 /** Long runs of calls, each answered by PlanRules and by a Model that reckons all anew from what was told. */
@@ -15,7 +16,14 @@ public final class ModelTest {
     private static final String[] PAIRS = {"12", "13", "14", "14", "15", "16", "17", "11", "22", "33", "32", "35", "65",
         "63", "77", "88", "75", "82"};
 
-    private final PlanRules x = new PlanRules();
+    /** A call that was not refused, and that others after it may see. */
+    private record Change(String call, int[] args) { }
+
+    private static final Set<String> CHANGING = Set.of("row", "clear", "table", "formula", "node", "rewrite", "sweep");
+
+    private PlanRules x = new PlanRules();
+    private final List<Change> changes = new ArrayList<>();
+    private Change latestRun;
     private final Model model = new Model();
     private final Random random;
     private final int seed;
@@ -197,7 +205,7 @@ public final class ModelTest {
         return text.toString();
     }
 
-    /** Everything that was told or rewritten, past the calls that the document counts. */
+    /** Everything that was told or rewritten; more calls than one object answers, so new ones are made on the way. */
     private void lookAtAll() {
         for (int n = 0; n < model.nodes.size(); n++) {
             for (int what = 0; what < 7; what++) {
@@ -243,11 +251,38 @@ public final class ModelTest {
         return random.nextInt(12) == 0 ? far[random.nextInt(far.length)] : random.nextInt(5) - 1;
     }
 
+    /** An object is used for 512 calls: a new one gets those that were not refused, and is as the old one was. */
+    private void renew() {
+        x = new PlanRules();
+        calls = 0;
+        for (Change change : changes) {
+            answer(change.call(), change.args());
+            calls++;
+        }
+        if (latestRun != null) {
+            answer(latestRun.call(), latestRun.args());
+            calls++;
+        }
+        Check.holds("calls are left to look at what was made, seed " + seed, calls < CALLS);
+    }
+
+    private void note(Change change, int answer) {
+        if (answer >= 0 && CHANGING.contains(change.call())) {
+            changes.add(change);
+        } else if (answer != PlanRules.BAD && change.call().equals("run")) {
+            latestRun = change;
+        }
+    }
+
     private int same(String call, int... args) {
+        if (calls == CALLS) {
+            renew();
+        }
         calls++;
         int got = answer(call, args);
         int want = model.answer(call, args);
         story.append(call).append(Arrays.toString(args)).append(" -> ").append(got).append('\n');
+        note(new Change(call, args), got);
         Check.due(call + Arrays.toString(args) + ", call " + calls + " of seed " + seed, got, want);
         if (got != want && Check.wrongSoFar() == 1) {
             System.out.println(story);

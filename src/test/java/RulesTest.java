@@ -17,8 +17,11 @@ public final class RulesTest {
         filterFilter();
         setSet();
         keeps();
-        folds();
-        onces();
+        foldUnion();
+        foldKeep();
+        onceOnce();
+        onceUnion();
+        onceUnionOfOneOnce();
         firsts();
         otherKinds();
         numbering();
@@ -192,7 +195,7 @@ public final class RulesTest {
         becomes(x, 11, x.node(KEEP, union, 0, 0, 5), 2, "UNION(KEEP(S0; 5), KEEP(FILTER(S1; 7); 5))");
     }
 
-    private static void folds() {
+    private static void foldUnion() {
         PlanRules x = started();
         int union = x.node(UNION, 0, 1, 0, 0);
         int fold = x.node(FOLD, union, 0, 0, 1);
@@ -210,6 +213,10 @@ public final class RulesTest {
         Check.due("another k", x.fits(x.node(FOLD, x.node(UNION, left, otherSum, 0, 0), 0, 0, 1), 12), 1);
         Check.due("another m", x.fits(x.node(FOLD, x.node(UNION, otherKey, left, 0, 0), 0, 0, 1), 12), 1);
         Check.due("m, k the other way", x.fits(x.node(FOLD, x.node(UNION, left, right, 0, 0), 0, 1, 0), 12), 1);
+    }
+
+    private static void foldKeep() {
+        PlanRules x = started();
         int keep = x.node(KEEP, 2, 0, 0, 3);
         becomes(x, 13, x.node(FOLD, keep, 0, 0, 1), 0, "FOLD(FILTER(S1; 7); 0; 1)");
         becomes(x, 13, x.node(FOLD, keep, 0, 1, 0), 0, "FOLD(FILTER(S1; 7); 1; 0)");
@@ -217,18 +224,29 @@ public final class RulesTest {
         stays(x, 13, x.node(FOLD, keep, 0, 2, 0));
     }
 
-    private static void onces() {
+    private static void onceOnce() {
+        PlanRules x = started();
+        int once = x.node(ONCE, 0, 0, 0, 0);
+        becomes(x, 14, x.node(ONCE, once, 0, 0, 0), 0, "ONCE(S0)");
+    }
+
+    private static void onceUnion() {
         PlanRules x = started();
         int once = x.node(ONCE, 0, 0, 0, 0);
         int other = x.node(ONCE, 2, 0, 0, 0);
-        becomes(x, 14, x.node(ONCE, once, 0, 0, 0), 0, "ONCE(S0)");
         int n = x.node(ONCE, x.node(UNION, 0, 1, 0, 0), 0, 0, 0);
         becomes(x, 16, n, 3, "ONCE(UNION(ONCE(S0), ONCE(S1)))");
         stays(x, 16, n);
         stays(x, 16, x.node(ONCE, x.node(UNION, once, other, 0, 0), 0, 0, 0));
-        becomes(x, 16, x.node(ONCE, x.node(UNION, once, 1, 0, 0), 0, 0, 0), 3,
+    }
+
+    private static void onceUnionOfOneOnce() {
+        PlanRules x = started();
+        int left = x.node(ONCE, 0, 0, 0, 0);
+        int right = x.node(ONCE, 2, 0, 0, 0);
+        becomes(x, 16, x.node(ONCE, x.node(UNION, left, 1, 0, 0), 0, 0, 0), 3,
             "ONCE(UNION(ONCE(ONCE(S0)), ONCE(S1)))");
-        becomes(x, 16, x.node(ONCE, x.node(UNION, 0, other, 0, 0), 0, 0, 0), 3,
+        becomes(x, 16, x.node(ONCE, x.node(UNION, 0, right, 0, 0), 0, 0, 0), 3,
             "ONCE(UNION(ONCE(S0), ONCE(ONCE(FILTER(S1; 7)))))");
     }
 
@@ -249,13 +267,10 @@ public final class RulesTest {
             "75", "82"};
         for (int upper = 1; upper < 9; upper++) {
             for (int lower = 0; lower < 9; lower++) {
-                PlanRules x = started();
-                int few = x.node(FIRST, 1, 0, 0, 2);
-                int below = x.node(lower, 0, few, 4, lower == KEEP || lower == JOIN ? 3 : NUMBER - (lower == FOLD ? 1 : 0));
-                int n = x.node(upper, below, few, 4, upper == FOLD ? 1 : NUMBER);
                 for (int rule = 0; rule < 18; rule++) {
                     if (!kinds[rule].equals("" + upper + lower)) {
-                        stays(x, rule, n);
+                        PlanRules x = started();
+                        stays(x, rule, pair(x, upper, lower));
                     }
                 }
             }
@@ -265,6 +280,13 @@ public final class RulesTest {
             stays(x, rule, 0);
             stays(x, rule, 1);
         }
+    }
+
+    /** A NODE of the upper kind on one of the lower kind. */
+    private static int pair(PlanRules x, int upper, int lower) {
+        int few = x.node(FIRST, 1, 0, 0, 2);
+        int below = x.node(lower, 0, few, 4, lower == KEEP || lower == JOIN ? 3 : NUMBER - (lower == FOLD ? 1 : 0));
+        return x.node(upper, below, few, 4, upper == FOLD ? 1 : NUMBER);
     }
 
     /** Within ahead of around, then from the left on. */
